@@ -205,32 +205,11 @@ public final class Equalbook {
 
     public int ofBook(int book, int what) throws IndexOutOfBoundsException, IllegalArgumentException {
         needBook(book);
+        needQuestion(what, 8);
         Desk asked = desk(book);
-        switch (what) {
-            case 0:
-                return asked.book.count;
-            case 1:
-                return asked.book.countLive();
-            case 2:
-                return Integer.bitCount(asked.bareLive());
-            case 3:
-                return asked.book.unlikes;
-            case 4:
-                return asked.book.open;
-            case 5:
-                return asked.book.laws;
-            case 6:
-                asked.classes.refresh();
-                return asked.classes.countClasses();
-            case 7:
-                asked.tables.refresh();
-                return asked.tables.countTables();
-            case 8:
-                asked.classes.refresh();
-                return asked.firstClash();
-            default:
-                throw new IllegalArgumentException("no such question");
-        }
+        asked.classes.refresh();
+        asked.tables.refresh();
+        return asked.answer(what);
     }
 
     // ---- what follows
@@ -280,7 +259,8 @@ public final class Equalbook {
         needEquation(book, k);
         needBareTwo(book, t, u);
         Desk asked = desk(book);
-        return asked.areLikeBy(asked.bareLive() & ~(1 << k), t, u);
+        asked.trial.follow(asked.bareLive() & ~(1 << k));
+        return asked.trial.areLike(t, u);
     }
 
     public String clashWhy(int book) throws IndexOutOfBoundsException {
@@ -297,13 +277,7 @@ public final class Equalbook {
     public int common() {
         first.classes.refresh();
         second.classes.refresh();
-        int classes = 0;
-        for (int t = 0; t < terms.count; t++) {
-            if (terms.isBare(t) && isFirstInBoth(t)) {
-                classes++;
-            }
-        }
-        return classes;
+        return countInBoth();
     }
 
     // ---- steps and laws
@@ -392,7 +366,7 @@ public final class Equalbook {
             return REFUSED;
         }
         int count = lines.countOf(proof);
-        if (finder.sayLike(proof, t, u) == REFUSED) {
+        if (finder.sayPath(proof, t, u, 0) == REFUSED) {
             lines.cut(proof, count);
             return REFUSED;
         }
@@ -419,13 +393,15 @@ public final class Equalbook {
         }
         int own = lines.countOf(proof);
         int all = own + lines.countOf(other);
-        boolean isRow = lines.makeRow(proof, own - 1, other, lines.countOf(other) - 1);
+        int t = lines.leftOf(lines.lastOf(proof));
+        int u = lines.rightOf(lines.lastOf(other));
+        boolean isRow = lines.makeRow(lines.lastOf(proof), lines.lastOf(other));
         if (all + (isRow ? 1 : 0) > Lines.MOST) {
             return REFUSED;
         }
         lines.copyBehind(proof, other);
         if (isRow) {
-            lines.add(proof, lines.leftOf(proof, own - 1), lines.rightOf(proof, all - 1), ROW, own - 1, all - 1);
+            lines.add(proof, t, u, ROW, own - 1, all - 1);
         }
         checks.isFresh = false;
         return lines.countOf(proof);
@@ -433,45 +409,28 @@ public final class Equalbook {
 
     public String line(int proof, int k) throws IndexOutOfBoundsException {
         needLine(proof, k);
+        int slot = Lines.slotOf(proof, k);
         ink.setLength(0);
-        terms.write(ink, lines.leftOf(proof, k));
+        terms.write(ink, lines.leftOf(slot));
         ink.append(" = ");
-        terms.write(ink, lines.rightOf(proof, k));
-        ink.append(": ").append(lines.ruleOf(proof, k));
-        ink.append(' ').append(lines.firstOf(proof, k));
-        ink.append(' ').append(lines.secondOf(proof, k));
+        terms.write(ink, lines.rightOf(slot));
+        ink.append(": ").append(lines.ruleOf(slot));
+        ink.append(' ').append(lines.firstOf(slot));
+        ink.append(' ').append(lines.secondOf(slot));
         return ink.toString();
     }
 
     public int ofLine(int proof, int k, int what) throws IndexOutOfBoundsException, IllegalArgumentException {
         needLine(proof, k);
+        needQuestion(what, 7);
         checks.refresh();
-        switch (what) {
-            case 0:
-                return checks.faultOf(proof, k);
-            case 1:
-                return Integer.bitCount(checks.hangsOf(proof, k));
-            case 2:
-                return checks.isInductive(proof, k) ? 1 : 0;
-            case 3:
-                return lines.ruleOf(proof, k);
-            case 4:
-                return lines.leftOf(proof, k);
-            case 5:
-                return lines.rightOf(proof, k);
-            case 6:
-                return lines.firstOf(proof, k);
-            case 7:
-                return lines.secondOf(proof, k);
-            default:
-                throw new IllegalArgumentException("no such question");
-        }
+        return answerOfLine(Lines.slotOf(proof, k), what);
     }
 
     public String hangs(int proof, int k) throws IndexOutOfBoundsException {
         needLine(proof, k);
         checks.refresh();
-        return setText(checks.hangsOf(proof, k));
+        return setText(checks.hangsOf(Lines.slotOf(proof, k)));
     }
 
     public int firstWrong(int proof) throws IndexOutOfBoundsException {
@@ -484,7 +443,7 @@ public final class Equalbook {
         needLine(proof, k);
         checks.refresh();
         first.tables.refresh();
-        return checks.firstFailing(proof, k);
+        return checks.firstFailing(Lines.slotOf(proof, k));
     }
 
     // ---- lemmas
@@ -514,25 +473,9 @@ public final class Equalbook {
 
     public int ofLemma(int name, int what) throws IndexOutOfBoundsException, IllegalArgumentException {
         needLemma(name);
+        needQuestion(what, 5);
         checks.refresh();
-        int sheet = Lines.sheetOf(name);
-        int last = lines.countOf(sheet) - 1;
-        switch (what) {
-            case 0:
-                return last + 1;
-            case 1:
-                return lines.leftOf(sheet, last);
-            case 2:
-                return lines.rightOf(sheet, last);
-            case 3:
-                return checks.doesStand(name) ? 1 : 0;
-            case 4:
-                return checks.isInductiveLemma(name) ? 1 : 0;
-            case 5:
-                return Integer.bitCount(checks.usedBy(name));
-            default:
-                throw new IllegalArgumentException("no such question");
-        }
+        return answerOfLemma(name, what);
     }
 
     // ---- tables
@@ -569,25 +512,9 @@ public final class Equalbook {
     // ---- the house
 
     public int house(int what) throws IllegalArgumentException {
+        needQuestion(what, 6);
         checks.refresh();
-        switch (what) {
-            case 0:
-                return terms.count;
-            case 1:
-                return terms.countBare();
-            case 2:
-                return lines.countInProofs();
-            case 3:
-                return checks.countAccepted();
-            case 4:
-                return lines.countLemmas();
-            case 5:
-                return checks.countStanding();
-            case 6:
-                return knocks;
-            default:
-                throw new IllegalArgumentException("no such question");
-        }
+        return answerOfHouse(what);
     }
 
     public int knock() {
@@ -596,30 +523,26 @@ public final class Equalbook {
     }
 
     public boolean isSound() {
-        refreshAll();
-        for (int p = 0; p < PROOFS; p++) {
-            if (!checks.isSoundProof(p)) {
-                return false;
-            }
-        }
-        return first.isSoundBook() && second.isSoundBook() && !checks.isLemmaInCircle();
+        refreshDesks();
+        checks.refresh();
+        return isSoundNow();
     }
 
     public long digest() {
-        refreshAll();
+        refreshDesks();
+        checks.refresh();
         long d = 6111;
         for (int what = 0; what <= 6; what++) {
-            d = d * 31 + house(what);
+            d = d * 31 + answerOfHouse(what);
         }
         for (int t = FIRST_TERMS; t < terms.count; t++) {
             ink.setLength(0);
             terms.write(ink, t);
             d = addInk(d);
         }
-        for (int book = 0; book < BOOKS; book++) {
-            d = addBook(d, book);
-        }
-        d = d * 31 + common();
+        d = addBook(d, first);
+        d = addBook(d, second);
+        d = d * 31 + countInBoth();
         for (int p = 0; p < PROOFS; p++) {
             d = addProof(d, p);
         }
@@ -628,7 +551,7 @@ public final class Equalbook {
                 d = addLemma(d, name);
             }
         }
-        return d * 31 + (isSound() ? 1 : 0);
+        return d * 31 + (isSoundNow() ? 1 : 0);
     }
 
     private long addInk(long d) {
@@ -639,11 +562,10 @@ public final class Equalbook {
         return sum;
     }
 
-    private long addBook(long d, int book) {
+    private long addBook(long d, Desk added) {
         long sum = d;
-        Desk added = desk(book);
         for (int what = 0; what <= 8; what++) {
-            sum = sum * 31 + ofBook(book, what);
+            sum = sum * 31 + added.answer(what);
         }
         for (int k = 0; k < added.book.count; k++) {
             ink.setLength(0);
@@ -661,10 +583,11 @@ public final class Equalbook {
     private long addProof(long d, int proof) {
         long sum = d * 31 + checks.firstWrongOf(proof);
         for (int k = 0; k < lines.countOf(proof); k++) {
+            int slot = Lines.slotOf(proof, k);
             for (int what = 0; what <= 7; what++) {
-                sum = sum * 31 + ofLine(proof, k, what);
+                sum = sum * 31 + answerOfLine(slot, what);
             }
-            sum = sum * 31 + checks.firstFailing(proof, k);
+            sum = sum * 31 + checks.firstFailing(slot);
         }
         return sum;
     }
@@ -672,9 +595,76 @@ public final class Equalbook {
     private long addLemma(long d, int name) {
         long sum = d * 31 + name;
         for (int what = 0; what <= 5; what++) {
-            sum = sum * 31 + ofLemma(name, what);
+            sum = sum * 31 + answerOfLemma(name, what);
         }
         return sum;
+    }
+
+    private int answerOfLine(int slot, int what) {
+        switch (what) {
+            case 0:
+                return checks.faultOf(slot);
+            case 1:
+                return Integer.bitCount(checks.hangsOf(slot));
+            case 2:
+                return checks.isInductive(slot) ? 1 : 0;
+            case 3:
+                return lines.ruleOf(slot);
+            case 4:
+                return lines.leftOf(slot);
+            case 5:
+                return lines.rightOf(slot);
+            case 6:
+                return lines.firstOf(slot);
+            default:
+                return lines.secondOf(slot);
+        }
+    }
+
+    private int answerOfLemma(int name, int what) {
+        int sheet = Lines.sheetOf(name);
+        switch (what) {
+            case 0:
+                return lines.countOf(sheet);
+            case 1:
+                return lines.leftOf(lines.lastOf(sheet));
+            case 2:
+                return lines.rightOf(lines.lastOf(sheet));
+            case 3:
+                return checks.doesStand(name) ? 1 : 0;
+            case 4:
+                return checks.isInductiveLemma(name) ? 1 : 0;
+            default:
+                return Integer.bitCount(checks.usedBy(name));
+        }
+    }
+
+    private int answerOfHouse(int what) {
+        switch (what) {
+            case 0:
+                return terms.count;
+            case 1:
+                return terms.countBare();
+            case 2:
+                return lines.countInProofs();
+            case 3:
+                return checks.countAccepted();
+            case 4:
+                return lines.countLemmas();
+            case 5:
+                return checks.countStanding();
+            default:
+                return knocks;
+        }
+    }
+
+    private boolean isSoundNow() {
+        for (int p = 0; p < PROOFS; p++) {
+            if (!checks.isSoundProof(p)) {
+                return false;
+            }
+        }
+        return first.isSoundBook() && second.isSoundBook() && !checks.isLemmaInCircle();
     }
 
     private Desk desk(int book) {
@@ -693,10 +683,21 @@ public final class Equalbook {
         }
     }
 
-    private void refreshAll() {
-        first.refresh();
-        second.refresh();
-        checks.refresh();
+    private void refreshDesks() {
+        first.classes.refresh();
+        second.classes.refresh();
+        first.tables.refresh();
+        second.tables.refresh();
+    }
+
+    private int countInBoth() {
+        int classes = 0;
+        for (int t = 0; t < terms.count; t++) {
+            if (terms.isBare(t) && isFirstInBoth(t)) {
+                classes++;
+            }
+        }
+        return classes;
     }
 
     private boolean isFirstInBoth(int t) {
@@ -765,6 +766,12 @@ public final class Equalbook {
     private void needBound(int bound, int most) {
         if (bound < 0 || bound > most) {
             throw new IllegalArgumentException("no such bound");
+        }
+    }
+
+    private void needQuestion(int what, int last) {
+        if (what < 0 || what > last) {
+            throw new IllegalArgumentException("no such question");
         }
     }
 
@@ -858,11 +865,11 @@ public final class Equalbook {
         }
 
         boolean isBare(int t) {
-            return variablesOf(t) == 0;
+            return t < 0 || t >= MOST_TERMS || variables[t] == 0;
         }
 
         boolean hasVariable(int t, int variable) {
-            return (variablesOf(t) & 1 << (variable - FIRST_VARIABLE)) != 0;
+            return t >= 0 && t < MOST_TERMS && (variables[t] >> (variable - FIRST_VARIABLE) & 1) != 0;
         }
 
         int countBare() {
@@ -937,12 +944,11 @@ public final class Equalbook {
             return r == REFUSED ? REFUSED : make(PAIR, l, r);
         }
 
-        /** Whether one TERM is another one with by PUT for the variable; with NONE for by only without the variable. */
-        boolean isPut(int one, int t, int variable, int by) {
-            return isPutWithin(one, t, variable, by, 0);
-        }
-
-        private boolean isPutWithin(int one, int t, int variable, int by, int depth) {
+        /**
+         * Whether one TERM is another one with by PUT for the variable; with NONE for by it is so only, if the
+         * variable does not stand there.
+         */
+        boolean isPut(int one, int t, int variable, int by, int depth) {
             if (depth > MOST_SIZE) {
                 return false;
             }
@@ -953,8 +959,8 @@ public final class Equalbook {
                 return one == by;
             }
             return signOf(one) == signOf(t)
-                    && isPutWithin(leftOf(one), leftOf(t), variable, by, depth + 1)
-                    && (signOf(t) != PAIR || isPutWithin(rightOf(one), rightOf(t), variable, by, depth + 1));
+                    && isPut(leftOf(one), leftOf(t), variable, by, depth + 1)
+                    && (signOf(t) != PAIR || isPut(rightOf(one), rightOf(t), variable, by, depth + 1));
         }
 
         void write(StringBuilder ink, int t) {
@@ -1045,7 +1051,7 @@ public final class Equalbook {
         }
 
         boolean isLive(int k) {
-            return holds(k) && (gone >> k & 1) == 0;
+            return k >= 0 && k < count && (gone >> k & 1) == 0;
         }
 
         int leftOf(int k) {
@@ -1142,12 +1148,6 @@ public final class Equalbook {
             normals.isFresh = false;
         }
 
-        void refresh() {
-            classes.refresh();
-            tables.refresh();
-            normals.refresh();
-        }
-
         /** The set of the BARE EQUATIONS that are not GONE. */
         int bareLive() {
             int set = 0;
@@ -1159,11 +1159,6 @@ public final class Equalbook {
             return set;
         }
 
-        boolean areLikeBy(int equations, int t, int u) {
-            trial.follow(equations);
-            return trial.areLike(t, u);
-        }
-
         /** The set WHY of two that are LIKE. */
         int reasons(int t, int u) {
             if (t == u) {
@@ -1172,11 +1167,35 @@ public final class Equalbook {
             int set = bareLive();
             for (int k = book.count - 1; k >= 0; k--) {
                 int less = set & ~(1 << k);
-                if (less != set && areLikeBy(less, t, u)) {
-                    set = less;
+                if (less != set) {
+                    trial.follow(less);
+                    set = trial.areLike(t, u) ? less : set;
                 }
             }
             return set;
+        }
+
+        int answer(int what) {
+            switch (what) {
+                case 0:
+                    return book.count;
+                case 1:
+                    return book.countLive();
+                case 2:
+                    return Integer.bitCount(bareLive());
+                case 3:
+                    return book.unlikes;
+                case 4:
+                    return book.open;
+                case 5:
+                    return book.laws;
+                case 6:
+                    return classes.countClasses();
+                case 7:
+                    return tables.countTables();
+                default:
+                    return firstClash();
+            }
         }
 
         int firstClash() {
@@ -1201,16 +1220,16 @@ public final class Equalbook {
         }
 
         private boolean isLeast(int set, int t, int u) {
-            if (!areLikeBy(set, t, u)) {
-                return false;
-            }
-            for (int k = 0; k < book.count; k++) {
+            trial.follow(set);
+            boolean isSo = trial.areLike(t, u);
+            for (int k = 0; k < book.count && isSo; k++) {
                 int less = set & ~(1 << k);
-                if (less != set && areLikeBy(less, t, u)) {
-                    return false;
+                if (less != set) {
+                    trial.follow(less);
+                    isSo = !trial.areLike(t, u);
                 }
             }
-            return true;
+            return isSo;
         }
     }
 
@@ -1220,6 +1239,7 @@ public final class Equalbook {
         private final Book book;
         // A row for each round: for each TERM the smallest one that is LIKE it in that round.
         private final int[] smallest = new int[MOST_TERMS * MOST_TERMS];
+        private final int[] key = new int[MOST_TERMS];
         private final int[] distance = new int[MOST_TERMS];
         private final int[] shown = new int[MOST_TERMS];
         private int rounds;
@@ -1246,8 +1266,8 @@ public final class Equalbook {
 
         /** Finds what follows from those EQUATIONS of the set that are BARE. */
         void follow(int equations) {
-            for (int t = 0; t < terms.count; t++) {
-                lay(0, t, t);
+            for (int t = 0; t < MOST_TERMS; t++) {
+                smallest[t] = t;
             }
             for (int k = 0; k < book.count; k++) {
                 int l = book.leftOf(k);
@@ -1263,7 +1283,7 @@ public final class Equalbook {
         }
 
         boolean areLike(int t, int u) {
-            return areLikeIn(rounds - 1, t, u);
+            return smallestIn(rounds - 1, t) == smallestIn(rounds - 1, u);
         }
 
         int smallestLike(int t) {
@@ -1272,7 +1292,7 @@ public final class Equalbook {
 
         int roundOf(int t, int u) {
             for (int round = 0; round < rounds; round++) {
-                if (areLikeIn(round, t, u)) {
+                if (smallestIn(round, t) == smallestIn(round, u)) {
                     return round;
                 }
             }
@@ -1294,7 +1314,7 @@ public final class Equalbook {
             for (int k = 0; k < book.count; k++) {
                 boolean isAsTold = book.leftOf(k) == t && book.rightOf(k) == u;
                 boolean isTurned = book.leftOf(k) == u && book.rightOf(k) == t;
-                if (book.isLive(k) && (isAsTold || isTurned)) {
+                if ((isAsTold || isTurned) && book.isLive(k)) {
                     return k;
                 }
             }
@@ -1326,35 +1346,42 @@ public final class Equalbook {
             }
         }
 
-        private int distanceOf(int t) {
-            return t >= 0 && t < MOST_TERMS ? distance[t] : NONE;
-        }
-
-        /** Finds for each TERM how many neighbours on a shortest row lead to u. */
+        /** Finds for each TERM how many neighbours on a shortest row lead to u; NONE, if none do. */
         private void measure(int round, int u) {
             for (int t = 0; t < MOST_TERMS; t++) {
                 distance[t] = t == u ? 0 : NONE;
             }
-            for (int d = 0; d < terms.count; d++) {
+            boolean isMore = true;
+            for (int d = 0; d < MOST_TERMS && isMore; d++) {
+                isMore = false;
                 for (int v = 0; v < terms.count; v++) {
-                    if (distanceOf(v) == d) {
-                        measureNeighbours(round, v, d + 1);
+                    if (distanceOf(v) == d && measureNeighbours(round, v)) {
+                        isMore = true;
                     }
                 }
             }
         }
 
-        private void measureNeighbours(int round, int v, int d) {
+        /** Whether there were neighbours of v that nothing had led to. */
+        private boolean measureNeighbours(int round, int v) {
+            boolean isMore = false;
             for (int w = 0; w < terms.count && w < MOST_TERMS; w++) {
                 if (distance[w] == NONE && areNeighbours(round, v, w)) {
-                    distance[w] = d;
+                    distance[w] = distanceOf(v) + 1;
+                    isMore = true;
                 }
             }
+            return isMore;
+        }
+
+        private int distanceOf(int t) {
+            return t >= 0 && t < MOST_TERMS ? distance[t] : NONE;
         }
 
         private int nextTo(int round, int v) {
+            int nearer = distanceOf(v) - 1;
             for (int w = 0; w < terms.count; w++) {
-                if (distanceOf(w) != NONE && distanceOf(w) == distanceOf(v) - 1 && areNeighbours(round, v, w)) {
+                if (nearer >= 0 && distanceOf(w) == nearer && areNeighbours(round, v, w)) {
                     return w;
                 }
             }
@@ -1362,30 +1389,38 @@ public final class Equalbook {
         }
 
         private boolean areNeighbours(int round, int v, int w) {
-            if (!areLikeIn(round, v, w)) {
+            if (smallestIn(round, v) != smallestIn(round, w)) {
                 return false;
             }
-            return round > 0 && havePartsLike(round - 1, v, w) || equationOf(v, w) != NONE;
+            boolean havePartsLike = round > 0 && keyIn(round - 1, v) != NONE
+                    && keyIn(round - 1, v) == keyIn(round - 1, w);
+            return havePartsLike || equationOf(v, w) != NONE;
         }
 
-        /** Whether two BARE TERMS have the same SIGN with parts that are LIKE in the round. */
-        private boolean havePartsLike(int round, int t, int u) {
-            int sign = terms.signOf(t);
-            return sign >= SUCCESSOR && sign == terms.signOf(u) && terms.isBare(t) && terms.isBare(u)
-                    && areLikeIn(round, terms.leftOf(t), terms.leftOf(u))
-                    && (sign != PAIR || areLikeIn(round, terms.rightOf(t), terms.rightOf(u)));
+        /** BARE TERMS have the same key, if they have the same SIGN with parts that are LIKE; NONE without parts. */
+        private int keyIn(int round, int t) {
+            if (!terms.isBare(t) || terms.leftOf(t) == NONE) {
+                return NONE;
+            }
+            // With s the right part is NONE, which is no TERM: so the key tells s from p.
+            int l = smallestIn(round, terms.leftOf(t));
+            int r = smallestIn(round, terms.rightOf(t));
+            return l * (MOST_TERMS + 1) + r + 1;
         }
 
         /** Fills the row of a round; whether it has more than that of the round ahead. */
         private boolean goesOn(int round) {
-            for (int t = 0; t < terms.count; t++) {
-                lay(round, t, smallestIn(round - 1, t));
+            if (round < 1 || round >= MOST_TERMS) {
+                return false;
+            }
+            for (int t = 0; t < MOST_TERMS; t++) {
+                smallest[round * MOST_TERMS + t] = smallest[(round - 1) * MOST_TERMS + t];
+                key[t] = t < terms.count ? keyIn(round - 1, t) : NONE;
             }
             boolean isMore = false;
-            for (int t = FIRST_TERMS; t < terms.count; t++) {
-                for (int u = FIRST_TERMS; u < t; u++) {
-                    if (!areLikeIn(round, t, u) && havePartsLike(round - 1, t, u)) {
-                        unite(round, t, u);
+            for (int t = FIRST_TERMS; t < MOST_TERMS; t++) {
+                for (int u = FIRST_TERMS; u < t && key[t] != NONE; u++) {
+                    if (key[t] == key[u] && unite(round, t, u)) {
                         isMore = true;
                     }
                 }
@@ -1393,31 +1428,25 @@ public final class Equalbook {
             return isMore;
         }
 
-        private void unite(int round, int t, int u) {
+        /** Whether the two were not LIKE in the round; then they are, with all that is LIKE them. */
+        private boolean unite(int round, int t, int u) {
             int one = smallestIn(round, t);
             int other = smallestIn(round, u);
-            int less = Math.min(one, other);
+            if (one == other || round < 0 || round >= MOST_TERMS) {
+                return false;
+            }
             int more = Math.max(one, other);
-            for (int v = 0; v < terms.count && less != more; v++) {
-                if (smallestIn(round, v) == more) {
-                    lay(round, v, less);
+            for (int place = round * MOST_TERMS; place < (round + 1) * MOST_TERMS; place++) {
+                if (smallest[place] == more) {
+                    smallest[place] = Math.min(one, other);
                 }
             }
-        }
-
-        private boolean areLikeIn(int round, int t, int u) {
-            return smallestIn(round, t) == smallestIn(round, u);
+            return true;
         }
 
         private int smallestIn(int round, int t) {
             boolean isThere = round >= 0 && round < MOST_TERMS && t >= 0 && t < MOST_TERMS;
             return isThere ? smallest[round * MOST_TERMS + t] : NONE;
-        }
-
-        private void lay(int round, int t, int least) {
-            if (round >= 0 && round < MOST_TERMS && t >= 0 && t < MOST_TERMS) {
-                smallest[round * MOST_TERMS + t] = least;
-            }
         }
     }
 
@@ -1695,8 +1724,8 @@ public final class Equalbook {
         }
 
         int placeOf(long wanted) {
-            for (int k = 0; k < count; k++) {
-                if (codeAt(k) == wanted) {
+            for (int k = 0; k < count && k < come.length; k++) {
+                if (come[k] == wanted) {
                     return k;
                 }
             }
@@ -1819,17 +1848,21 @@ public final class Equalbook {
         }
     }
 
-    /** The lines of the PROOFS and, on sheets of their own behind these, of the lemmas. */
+    /**
+     * The lines of the PROOFS and, on sheets of their own behind these, of the lemmas. A slot is the place of a
+     * line among those of all sheets.
+     */
     private static final class Lines {
         private static final int MOST = 24;
         private static final int SHEETS = PROOFS + NAMES;
+        private static final int SLOTS = SHEETS * MOST;
 
         private final Terms terms;
-        private final int[] left = new int[SHEETS * MOST];
-        private final int[] right = new int[SHEETS * MOST];
-        private final int[] rule = new int[SHEETS * MOST];
-        private final int[] first = new int[SHEETS * MOST];
-        private final int[] second = new int[SHEETS * MOST];
+        private final int[] left = new int[SLOTS];
+        private final int[] right = new int[SLOTS];
+        private final int[] rule = new int[SLOTS];
+        private final int[] first = new int[SLOTS];
+        private final int[] second = new int[SLOTS];
         private final int[] count = new int[SHEETS];
 
         Lines(Terms terms) {
@@ -1840,13 +1873,22 @@ public final class Equalbook {
             return PROOFS + name;
         }
 
-        /** The place of a line in the rows, or NONE. */
-        static int slot(int sheet, int k) {
-            return sheet >= 0 && sheet < SHEETS && k >= 0 && k < MOST ? sheet * MOST + k : NONE;
+        static int slotOf(int sheet, int k) {
+            return sheet * MOST + k;
+        }
+
+        /** The slot of the first line of the sheet on which a slot is. */
+        static int baseOf(int slot) {
+            return slot - slot % MOST;
         }
 
         int countOf(int sheet) {
             return sheet >= 0 && sheet < SHEETS ? count[sheet] : 0;
+        }
+
+        /** The slot of the last line of a sheet, or NONE. */
+        int lastOf(int sheet) {
+            return countOf(sheet) > 0 ? slotOf(sheet, countOf(sheet) - 1) : NONE;
         }
 
         boolean holds(int sheet, int k) {
@@ -1860,9 +1902,7 @@ public final class Equalbook {
         int countLemmas() {
             int lemmas = 0;
             for (int name = 0; name < NAMES; name++) {
-                if (isLemma(name)) {
-                    lemmas++;
-                }
+                lemmas += isLemma(name) ? 1 : 0;
             }
             return lemmas;
         }
@@ -1875,62 +1915,62 @@ public final class Equalbook {
             return sum;
         }
 
-        int leftOf(int sheet, int k) {
-            int slot = slot(sheet, k);
-            return slot >= 0 ? left[slot] : NONE;
+        int leftOf(int slot) {
+            return slot >= 0 && slot < SLOTS ? left[slot] : NONE;
         }
 
-        int rightOf(int sheet, int k) {
-            int slot = slot(sheet, k);
-            return slot >= 0 ? right[slot] : NONE;
+        int rightOf(int slot) {
+            return slot >= 0 && slot < SLOTS ? right[slot] : NONE;
         }
 
-        int ruleOf(int sheet, int k) {
-            int slot = slot(sheet, k);
-            return slot >= 0 ? rule[slot] : NONE;
+        int ruleOf(int slot) {
+            return slot >= 0 && slot < SLOTS ? rule[slot] : NONE;
         }
 
-        int firstOf(int sheet, int k) {
-            int slot = slot(sheet, k);
-            return slot >= 0 ? first[slot] : NONE;
+        int firstOf(int slot) {
+            return slot >= 0 && slot < SLOTS ? first[slot] : NONE;
         }
 
-        int secondOf(int sheet, int k) {
-            int slot = slot(sheet, k);
-            return slot >= 0 ? second[slot] : NONE;
+        int secondOf(int slot) {
+            return slot >= 0 && slot < SLOTS ? second[slot] : NONE;
         }
 
-        boolean isInduct(int sheet, int k) {
-            int r = ruleOf(sheet, k);
-            return r >= FIRST_INDUCT && r <= LAST_INDUCT;
+        boolean isInduct(int slot) {
+            return ruleOf(slot) >= FIRST_INDUCT && ruleOf(slot) <= LAST_INDUCT;
         }
 
-        /** Whether the line names a line by its first number. */
-        boolean namesFirst(int sheet, int k) {
-            int r = ruleOf(sheet, k);
-            return r >= TURNED && r <= LAST_PUT || isInduct(sheet, k);
+        /** Whether a line names a line by its first number. */
+        boolean namesFirst(int slot) {
+            return ruleOf(slot) >= TURNED && ruleOf(slot) <= LAST_PUT || isInduct(slot);
         }
 
-        boolean namesSecond(int sheet, int k) {
-            int r = ruleOf(sheet, k);
-            return r == ROW || isInduct(sheet, k) || r == WITHIN && terms.signOf(leftOf(sheet, k)) == PAIR;
+        boolean namesSecond(int slot) {
+            if (ruleOf(slot) == WITHIN) {
+                return terms.signOf(leftOf(slot)) == PAIR;
+            }
+            return ruleOf(slot) == ROW || isInduct(slot);
         }
 
-        boolean haveSides(int sheet, int k, int l, int r) {
-            return leftOf(sheet, k) == l && rightOf(sheet, k) == r;
+        boolean haveSides(int slot, int l, int r) {
+            return leftOf(slot) == l && rightOf(slot) == r;
         }
 
-        /** Whether both lines are there, and the one ends with the side with which the other one starts. */
-        boolean makeRow(int sheet, int k, int otherSheet, int otherK) {
-            return holds(sheet, k) && holds(otherSheet, otherK) && rightOf(sheet, k) == leftOf(otherSheet, otherK);
+        boolean haveSameSides(int slot, int other) {
+            return leftOf(slot) == leftOf(other) && rightOf(slot) == rightOf(other);
+        }
+
+        /** Whether both lines are there (not NONE), and the one ends with what the other one starts with. */
+        boolean makeRow(int slot, int other) {
+            return slot != NONE && other != NONE && rightOf(slot) == leftOf(other);
         }
 
         /** The names that the LEMMA lines of a sheet tell, as a set. */
         int lemmasNamed(int sheet) {
             int set = 0;
             for (int k = 0; k < countOf(sheet); k++) {
-                int name = firstOf(sheet, k);
-                if (ruleOf(sheet, k) == LEMMA && name >= 0 && name < NAMES) {
+                int slot = slotOf(sheet, k);
+                int name = firstOf(slot);
+                if (ruleOf(slot) == LEMMA && name >= 0 && name < NAMES) {
                     set |= 1 << name;
                 }
             }
@@ -1940,8 +1980,8 @@ public final class Equalbook {
         /** The number of the line that is added behind the others; REFUSED, if there are 24. */
         int add(int sheet, int l, int r, int byRule, int i, int j) {
             int k = countOf(sheet);
-            int slot = slot(sheet, k);
-            if (slot < 0) {
+            int slot = slotOf(sheet, k);
+            if (sheet < 0 || sheet >= SHEETS || k >= MOST || slot < 0 || slot >= SLOTS) {
                 return REFUSED;
             }
             left[slot] = l;
@@ -1963,32 +2003,31 @@ public final class Equalbook {
         /** Adds the lines of another sheet; the lines that they name stand as much further behind. */
         void copyBehind(int sheet, int other) {
             int own = countOf(sheet);
-            for (int k = 0; k < countOf(other); k++) {
-                int i = firstOf(other, k) + (namesFirst(other, k) ? own : 0);
-                int j = secondOf(other, k) + (namesSecond(other, k) ? own : 0);
-                add(sheet, leftOf(other, k), rightOf(other, k), ruleOf(other, k), i, j);
+            int all = countOf(other);
+            for (int k = 0; k < all; k++) {
+                int slot = slotOf(other, k);
+                int i = firstOf(slot) + (namesFirst(slot) ? own : 0);
+                int j = secondOf(slot) + (namesSecond(slot) ? own : 0);
+                add(sheet, leftOf(slot), rightOf(slot), ruleOf(slot), i, j);
             }
         }
 
-        /** Lets a line name other lines. */
-        void rename(int sheet, int k, int i, int j) {
-            int slot = slot(sheet, k);
-            if (slot >= 0) {
-                first[slot] = namesFirst(sheet, k) ? i : first[slot];
-                second[slot] = namesSecond(sheet, k) ? j : second[slot];
+        /** Lets a line name other lines, where it names any. */
+        void rename(int slot, int i, int j) {
+            if (slot >= 0 && slot < SLOTS) {
+                first[slot] = namesFirst(slot) ? i : first[slot];
+                second[slot] = namesSecond(slot) ? j : second[slot];
             }
         }
 
-        /** Lays a line at another place of its sheet. */
-        void move(int sheet, int k, int to) {
-            int slot = slot(sheet, k);
-            int place = slot(sheet, to);
-            if (slot >= 0 && place >= 0) {
-                left[place] = left[slot];
-                right[place] = right[slot];
-                rule[place] = rule[slot];
-                first[place] = first[slot];
-                second[place] = second[slot];
+        /** Lays a line at another slot, too. */
+        void move(int slot, int to) {
+            if (slot >= 0 && slot < SLOTS && to >= 0 && to < SLOTS) {
+                left[to] = left[slot];
+                right[to] = right[slot];
+                rule[to] = rule[slot];
+                first[to] = first[slot];
+                second[to] = second[slot];
             }
         }
     }
@@ -1998,9 +2037,9 @@ public final class Equalbook {
         private final Terms terms;
         private final Desk desk;
         private final Lines lines;
-        private final int[] fault = new int[Lines.SHEETS * Lines.MOST];
-        private final int[] hanging = new int[Lines.SHEETS * Lines.MOST];
-        private final boolean[] inductive = new boolean[Lines.SHEETS * Lines.MOST];
+        private final int[] fault = new int[Lines.SLOTS];
+        private final int[] hanging = new int[Lines.SLOTS];
+        private final boolean[] inductive = new boolean[Lines.SLOTS];
         private final int[] wrong = new int[Lines.SHEETS];
         // Sets of names.
         private int standing;
@@ -2014,32 +2053,44 @@ public final class Equalbook {
             this.lines = lines;
         }
 
+        /** Checks all lines; each lemma behind those that it names: no lemma USES itself, so the passes reach all. */
         void refresh() {
             if (isFresh) {
                 return;
             }
             desk.classes.refresh();
             desk.normals.refresh();
-            checkLemmas();
+            standing = 0;
+            inductiveLemmas = 0;
+            int known = 0;
+            for (int pass = 0; pass <= NAMES; pass++) {
+                for (int name = 0; name < NAMES; name++) {
+                    int named = lines.lemmasNamed(Lines.sheetOf(name));
+                    if (!lines.isLemma(name)) {
+                        known |= 1 << name;
+                    } else if ((known >> name & 1) == 0 && (named & ~known) == 0) {
+                        checkSheet(Lines.sheetOf(name));
+                        noteLemma(name, named);
+                        known |= 1 << name;
+                    }
+                }
+            }
             for (int p = 0; p < PROOFS; p++) {
                 checkSheet(p);
             }
             isFresh = true;
         }
 
-        int faultOf(int sheet, int k) {
-            int slot = Lines.slot(sheet, k);
-            return slot >= 0 ? fault[slot] : NOT_THERE;
+        int faultOf(int slot) {
+            return slot >= 0 && slot < Lines.SLOTS ? fault[slot] : NOT_THERE;
         }
 
-        int hangsOf(int sheet, int k) {
-            int slot = Lines.slot(sheet, k);
-            return slot >= 0 ? hanging[slot] : 0;
+        int hangsOf(int slot) {
+            return slot >= 0 && slot < Lines.SLOTS ? hanging[slot] : 0;
         }
 
-        boolean isInductive(int sheet, int k) {
-            int slot = Lines.slot(sheet, k);
-            return slot >= 0 && inductive[slot];
+        boolean isInductive(int slot) {
+            return slot >= 0 && slot < Lines.SLOTS && inductive[slot];
         }
 
         int firstWrongOf(int sheet) {
@@ -2072,7 +2123,7 @@ public final class Equalbook {
 
         /** The lemmas that are there and that a lemma USES, as a set of names. */
         int usedBy(int name) {
-            return name >= 0 && name < NAMES ? used[name] : 0;
+            return name >= 0 && name < NAMES && lines.isLemma(name) ? used[name] : 0;
         }
 
         boolean isLemmaInCircle() {
@@ -2085,7 +2136,7 @@ public final class Equalbook {
         }
 
         boolean mayKeep(int name, int proof) {
-            if (!isAccepted(proof) || hangsOf(proof, lines.countOf(proof) - 1) != 0) {
+            if (!isAccepted(proof) || hangsOf(lines.lastOf(proof)) != 0) {
                 return false;
             }
             int named = lines.lemmasNamed(proof);
@@ -2099,10 +2150,10 @@ public final class Equalbook {
         }
 
         /** The first TABLE of the BOOK in which a line does not hold (BUILT, if it USES induction), or NONE. */
-        int firstFailing(int sheet, int k) {
+        int firstFailing(int slot) {
             for (int word = 0; word < WORDS; word++) {
-                int failing = desk.tables.lanesAt(word) & ~Tables.equalLanes(wrongValues(sheet, k, word));
-                if (isInductive(sheet, k)) {
+                int failing = desk.tables.lanesAt(word) & ~Tables.equalLanes(wrongValues(slot, word));
+                if (isInductive(slot)) {
                     failing &= Tables.builtLanes(word);
                 }
                 for (int lane = 0; lane < LANES && failing != 0; lane++) {
@@ -2116,10 +2167,9 @@ public final class Equalbook {
 
         /** Whether each line ahead of the first that is not RIGHT holds in all TABLES in which it must. */
         boolean isSoundProof(int proof) {
-            int wrongLine = firstWrongOf(proof);
-            int end = wrongLine == NONE ? lines.countOf(proof) : wrongLine;
+            int end = firstWrongOf(proof) == NONE ? lines.countOf(proof) : firstWrongOf(proof);
             for (int k = 0; k < end; k++) {
-                if (firstFailing(proof, k) != NONE) {
+                if (firstFailing(Lines.slotOf(proof, k)) != NONE) {
                     return false;
                 }
             }
@@ -2127,45 +2177,29 @@ public final class Equalbook {
         }
 
         /** A bit for all values with which the ASSUMPTIONS of a line have equal sides, but the line has not. */
-        private long wrongValues(int sheet, int k, int word) {
-            long bad = terms.unequal(lines.leftOf(sheet, k), lines.rightOf(sheet, k), word);
-            int set = hangsOf(sheet, k);
+        private long wrongValues(int slot, int word) {
+            long bad = terms.unequal(lines.leftOf(slot), lines.rightOf(slot), word);
+            int base = Lines.baseOf(slot);
             for (int a = 0; a < Lines.MOST && bad != 0; a++) {
-                if ((set >> a & 1) != 0) {
-                    bad &= ~terms.unequal(lines.leftOf(sheet, a), lines.rightOf(sheet, a), word);
+                if ((hangsOf(slot) >> a & 1) != 0) {
+                    bad &= ~terms.unequal(lines.leftOf(base + a), lines.rightOf(base + a), word);
                 }
             }
             return bad;
         }
 
-        /** Checks each lemma behind those that it names: no lemma USES itself, so the passes reach all. */
-        private void checkLemmas() {
-            standing = 0;
-            inductiveLemmas = 0;
-            int known = 0;
-            for (int name = 0; name < NAMES; name++) {
-                known |= lines.isLemma(name) ? 0 : 1 << name;
-                used[name] = 0;
+        /** Notes what is told of a lemma whose lines are checked. */
+        private void noteLemma(int name, int named) {
+            if (name < 0 || name >= NAMES) {
+                return;
             }
-            for (int pass = 0; pass < NAMES; pass++) {
-                for (int name = 0; name < NAMES; name++) {
-                    int named = lines.lemmasNamed(Lines.sheetOf(name));
-                    if ((known >> name & 1) == 0 && (named & ~known) == 0) {
-                        checkLemma(name, named);
-                        known |= 1 << name;
-                    }
-                }
-            }
-        }
-
-        private void checkLemma(int name, int named) {
             int sheet = Lines.sheetOf(name);
-            checkSheet(sheet);
             standing |= isAccepted(sheet) ? 1 << name : 0;
             for (int k = 0; k < lines.countOf(sheet); k++) {
-                inductiveLemmas |= isInductive(sheet, k) ? 1 << name : 0;
+                inductiveLemmas |= isInductive(Lines.slotOf(sheet, k)) ? 1 << name : 0;
             }
-            for (int n = 0; n < NAMES && name >= 0 && name < NAMES; n++) {
+            used[name] = 0;
+            for (int n = 0; n < NAMES; n++) {
                 if ((named >> n & 1) != 0 && lines.isLemma(n)) {
                     used[name] |= 1 << n | used[n];
                 }
@@ -2178,178 +2212,168 @@ public final class Equalbook {
             }
             wrong[sheet] = NONE;
             for (int k = 0; k < lines.countOf(sheet); k++) {
-                int slot = Lines.slot(sheet, k);
-                if (slot >= 0) {
-                    fault[slot] = findFault(sheet, k);
-                    hanging[slot] = findHangs(sheet, k, fault[slot]);
-                    inductive[slot] = usesInduction(sheet, k);
+                int slot = Lines.slotOf(sheet, k);
+                if (slot >= 0 && slot < Lines.SLOTS) {
+                    fault[slot] = findFault(slot);
+                    hanging[slot] = findHangs(slot, k);
+                    inductive[slot] = usesInduction(slot);
                     wrong[sheet] = wrong[sheet] == NONE && fault[slot] != RIGHT ? k : wrong[sheet];
                 }
             }
         }
 
-        /** The line that k names by its first number, or NONE, if it names none that is ahead. */
-        private int firstAhead(int sheet, int k) {
-            int i = lines.firstOf(sheet, k);
-            return lines.namesFirst(sheet, k) && i >= 0 && i < k ? i : NONE;
+        /** The slot of the line that a line names by its first number, or NONE, if it names none that is ahead. */
+        private int firstAhead(int slot) {
+            int i = lines.firstOf(slot);
+            int named = Lines.baseOf(slot) + i;
+            return lines.namesFirst(slot) && i >= 0 && named < slot ? named : NONE;
         }
 
-        private int secondAhead(int sheet, int k) {
-            int j = lines.secondOf(sheet, k);
-            return lines.namesSecond(sheet, k) && j >= 0 && j < k ? j : NONE;
+        private int secondAhead(int slot) {
+            int j = lines.secondOf(slot);
+            int named = Lines.baseOf(slot) + j;
+            return lines.namesSecond(slot) && j >= 0 && named < slot ? named : NONE;
         }
 
-        private boolean usesInduction(int sheet, int k) {
-            if (lines.ruleOf(sheet, k) == LEMMA) {
-                return isInductiveLemma(lines.firstOf(sheet, k));
+        private boolean usesInduction(int slot) {
+            if (lines.ruleOf(slot) == LEMMA) {
+                return isInductiveLemma(lines.firstOf(slot));
             }
-            return lines.isInduct(sheet, k)
-                    || isInductive(sheet, firstAhead(sheet, k)) || isInductive(sheet, secondAhead(sheet, k));
+            return lines.isInduct(slot) || isInductive(firstAhead(slot)) || isInductive(secondAhead(slot));
         }
 
-        private int findHangs(int sheet, int k, int ownFault) {
-            if (lines.ruleOf(sheet, k) == ASSUME) {
+        /** On what a line HANGS, whose FAULT is known. */
+        private int findHangs(int slot, int k) {
+            if (lines.ruleOf(slot) == ASSUME) {
                 return 1 << k;
             }
-            int byFirst = hangsOf(sheet, firstAhead(sheet, k));
-            int bySecond = hangsOf(sheet, secondAhead(sheet, k));
-            if (lines.isInduct(sheet, k) && (ownFault == RIGHT || ownFault == VARIABLE_STANDS)) {
-                bySecond &= ~(1 << assumptionOf(sheet, k));
+            int bySecond = hangsOf(secondAhead(slot));
+            if (lines.isInduct(slot) && (faultOf(slot) == RIGHT || faultOf(slot) == VARIABLE_STANDS)) {
+                bySecond &= ~(1 << assumptionOf(slot, bySecond));
             }
-            return byFirst | bySecond;
+            return hangsOf(firstAhead(slot)) | bySecond;
         }
 
-        private int findFault(int sheet, int k) {
-            boolean isFirstThere = firstAhead(sheet, k) != NONE || !lines.namesFirst(sheet, k);
-            boolean isSecondThere = secondAhead(sheet, k) != NONE || !lines.namesSecond(sheet, k);
-            if (!isFirstThere || !isSecondThere) {
+        private int findFault(int slot) {
+            int i = firstAhead(slot);
+            int j = secondAhead(slot);
+            if (lines.namesFirst(slot) && i == NONE || lines.namesSecond(slot) && j == NONE) {
                 return NOT_THERE;
             }
-            int rule = lines.ruleOf(sheet, k);
+            int rule = lines.ruleOf(slot);
             if (rule == TOLD) {
-                return findFaultOfTold(sheet, k);
+                return findFaultOfTold(slot);
             }
             if (rule == LEMMA) {
-                return findFaultOfLemma(sheet, k);
+                return findFaultOfLemma(slot);
             }
             if (rule >= FIRST_PUT && rule <= LAST_PUT) {
-                return findFaultOfPut(sheet, k);
+                return findFaultOfPut(slot, i);
             }
-            if (lines.isInduct(sheet, k)) {
-                return findFaultOfInduct(sheet, k);
+            if (lines.isInduct(slot)) {
+                return findFaultOfInduct(slot, i, j);
             }
-            return areSidesAsTold(sheet, k) ? RIGHT : OTHER_SIDES;
+            return areSidesAsTold(slot, i, j) ? RIGHT : OTHER_SIDES;
         }
 
-        private int findFaultOfTold(int sheet, int k) {
-            int i = lines.firstOf(sheet, k);
+        private int findFaultOfTold(int slot) {
+            int i = lines.firstOf(slot);
             if (!desk.book.holds(i)) {
                 return NOT_THERE;
             }
             if (!desk.book.isLive(i)) {
                 return NO_LONGER;
             }
-            return lines.haveSides(sheet, k, desk.book.leftOf(i), desk.book.rightOf(i)) ? RIGHT : OTHER_SIDES;
+            return lines.haveSides(slot, desk.book.leftOf(i), desk.book.rightOf(i)) ? RIGHT : OTHER_SIDES;
         }
 
-        private int findFaultOfLemma(int sheet, int k) {
-            int name = lines.firstOf(sheet, k);
+        private int findFaultOfLemma(int slot) {
+            int name = lines.firstOf(slot);
             if (!lines.isLemma(name)) {
                 return NOT_THERE;
             }
             if (!doesStand(name)) {
                 return NO_LONGER;
             }
-            int lemma = Lines.sheetOf(name);
-            int last = lines.countOf(lemma) - 1;
-            return lines.haveSides(sheet, k, lines.leftOf(lemma, last), lines.rightOf(lemma, last))
-                    ? RIGHT : OTHER_SIDES;
+            return lines.haveSameSides(slot, lines.lastOf(Lines.sheetOf(name))) ? RIGHT : OTHER_SIDES;
         }
 
-        private int findFaultOfPut(int sheet, int k) {
-            int i = lines.firstOf(sheet, k);
-            int by = lines.secondOf(sheet, k);
-            int variable = lines.ruleOf(sheet, k) - FIRST_PUT + FIRST_VARIABLE;
+        private int findFaultOfPut(int slot, int i) {
+            int by = lines.secondOf(slot);
+            int variable = lines.ruleOf(slot) - FIRST_PUT + FIRST_VARIABLE;
             if (!terms.holds(by)) {
                 return NOT_THERE;
             }
-            if (!isLinePut(sheet, k, i, variable, by)) {
+            if (!isLinePut(slot, i, variable, by)) {
                 return OTHER_SIDES;
             }
-            return standsIn(sheet, hangsOf(sheet, i), variable) ? VARIABLE_STANDS : RIGHT;
+            return standsIn(hangsOf(i), Lines.baseOf(slot), variable) ? VARIABLE_STANDS : RIGHT;
         }
 
-        private int findFaultOfInduct(int sheet, int k) {
-            int i = lines.firstOf(sheet, k);
-            int j = lines.secondOf(sheet, k);
-            int variable = lines.ruleOf(sheet, k) - FIRST_INDUCT + FIRST_VARIABLE;
-            // If s of the variable is not kept, no line has it on a side: NONE then matches none.
+        private int findFaultOfInduct(int slot, int i, int j) {
+            int variable = lines.ruleOf(slot) - FIRST_INDUCT + FIRST_VARIABLE;
+            // If s of the variable is not kept, it stands on no side: NONE for it is as good.
             int next = terms.numberOf(SUCCESSOR, variable, NONE);
-            if (!isLinePut(sheet, i, k, variable, 0) || !isLinePut(sheet, j, k, variable, next)) {
+            if (!isLinePut(i, slot, variable, 0) || !isLinePut(j, slot, variable, next)) {
                 return OTHER_SIDES;
             }
-            int assumption = assumptionOf(sheet, k);
+            int assumption = assumptionOf(slot, hangsOf(j));
             if (assumption == NONE) {
                 return NO_ASSUMPTION;
             }
-            int others = hangsOf(sheet, j) & ~(1 << assumption) | hangsOf(sheet, i);
-            return standsIn(sheet, others, variable) ? VARIABLE_STANDS : RIGHT;
+            int others = hangsOf(j) & ~(1 << assumption) | hangsOf(i);
+            return standsIn(others, Lines.baseOf(slot), variable) ? VARIABLE_STANDS : RIGHT;
         }
 
-        /** Whether the line one has the sides of the line k with a TERM PUT for the variable. */
-        private boolean isLinePut(int sheet, int one, int k, int variable, int by) {
-            return terms.isPut(lines.leftOf(sheet, one), lines.leftOf(sheet, k), variable, by)
-                    && terms.isPut(lines.rightOf(sheet, one), lines.rightOf(sheet, k), variable, by);
+        /** Whether one line has the sides of another one with a TERM PUT for the variable. */
+        private boolean isLinePut(int one, int slot, int variable, int by) {
+            return terms.isPut(lines.leftOf(one), lines.leftOf(slot), variable, by, 0)
+                    && terms.isPut(lines.rightOf(one), lines.rightOf(slot), variable, by, 0);
         }
 
-        /** The first ASSUMPTION with the sides of an INDUCT line, on which its second line HANGS, or NONE. */
-        private int assumptionOf(int sheet, int k) {
-            int set = hangsOf(sheet, secondAhead(sheet, k));
-            for (int a = 0; a < k; a++) {
-                boolean isIn = (set >> a & 1) != 0;
-                if (isIn && lines.haveSides(sheet, a, lines.leftOf(sheet, k), lines.rightOf(sheet, k))) {
+        /** The first ASSUMPTION of a set with the sides of a line, or NONE. */
+        private int assumptionOf(int slot, int set) {
+            int base = Lines.baseOf(slot);
+            for (int a = 0; a < Lines.MOST; a++) {
+                if ((set >> a & 1) != 0 && lines.haveSameSides(base + a, slot)) {
                     return a;
                 }
             }
             return NONE;
         }
 
-        private boolean standsIn(int sheet, int assumptions, int variable) {
+        private boolean standsIn(int assumptions, int base, int variable) {
             for (int a = 0; a < Lines.MOST; a++) {
-                boolean isIn = (assumptions >> a & 1) != 0;
-                if (isIn && (terms.hasVariable(lines.leftOf(sheet, a), variable)
-                        || terms.hasVariable(lines.rightOf(sheet, a), variable))) {
+                boolean isThere = terms.hasVariable(lines.leftOf(base + a), variable)
+                        || terms.hasVariable(lines.rightOf(base + a), variable);
+                if ((assumptions >> a & 1) != 0 && isThere) {
                     return true;
                 }
             }
             return false;
         }
 
-        /** Whether the sides are right by a RULE that looks at nothing but sides. */
-        private boolean areSidesAsTold(int sheet, int k) {
-            int t = lines.leftOf(sheet, k);
-            int u = lines.rightOf(sheet, k);
-            int i = lines.firstOf(sheet, k);
-            int j = lines.secondOf(sheet, k);
-            switch (lines.ruleOf(sheet, k)) {
+        /** Whether the sides are right by a RULE that looks at nothing but sides; i and j are slots here. */
+        private boolean areSidesAsTold(int slot, int i, int j) {
+            int t = lines.leftOf(slot);
+            int u = lines.rightOf(slot);
+            switch (lines.ruleOf(slot)) {
                 case SAME:
                     return t == u;
                 case TURNED:
-                    return lines.haveSides(sheet, i, u, t);
+                    return lines.haveSides(i, u, t);
                 case ROW:
-                    return lines.leftOf(sheet, i) == t && lines.rightOf(sheet, j) == u
-                            && lines.rightOf(sheet, i) == lines.leftOf(sheet, j);
+                    return lines.leftOf(i) == t && lines.rightOf(j) == u && lines.makeRow(i, j);
                 case WITHIN:
-                    return terms.signOf(t) >= SUCCESSOR && terms.signOf(t) == terms.signOf(u)
-                            && lines.haveSides(sheet, i, terms.leftOf(t), terms.leftOf(u))
-                            && (terms.signOf(t) != PAIR
-                                || lines.haveSides(sheet, j, terms.rightOf(t), terms.rightOf(u)));
+                    return terms.leftOf(t) != NONE && terms.signOf(t) == terms.signOf(u)
+                            && lines.haveSides(i, terms.leftOf(t), terms.leftOf(u))
+                            && (j == NONE || lines.haveSides(j, terms.rightOf(t), terms.rightOf(u)));
                 case LAWS:
                     return desk.normals.areSame(t, u);
                 case CLASSES:
                     return terms.isBare(t) && terms.isBare(u) && desk.classes.areLike(t, u);
                 default:
-                    return true;
+                    return lines.ruleOf(slot) == ASSUME;
             }
         }
     }
@@ -2369,10 +2393,6 @@ public final class Equalbook {
         }
 
         /** The number of the last line said for two that are LIKE; REFUSED, if not all lines have a place. */
-        int sayLike(int proof, int t, int u) {
-            return sayPath(proof, t, u, 0);
-        }
-
         private int sayPath(int proof, int t, int u, int depth) {
             // Each depth ends with a WITHIN line of its own: so beyond this one there were more than 24 lines.
             if (depth >= Lines.MOST) {
@@ -2387,8 +2407,8 @@ public final class Equalbook {
             for (int n = 1; n < length; n++) {
                 int w = pathAt(from + n);
                 int part = sayNeighbours(proof, pathAt(from + n - 1), w, depth);
-                if (part != REFUSED) {
-                    part = n == 1 ? part : lines.add(proof, t, w, ROW, whole, part);
+                if (part != REFUSED && n > 1) {
+                    part = lines.add(proof, t, w, ROW, whole, part);
                 }
                 if (part == REFUSED) {
                     return REFUSED;
@@ -2432,7 +2452,7 @@ public final class Equalbook {
     private static final class Shortener {
         private final Lines lines;
         private final Checks checks;
-        // For each line the one that stands for it; then its new number.
+        // For each line the one that stands for it; then, for those that stay, their new number.
         private final int[] standIn = new int[Lines.MOST];
 
         Shortener(Lines lines, Checks checks) {
@@ -2443,16 +2463,16 @@ public final class Equalbook {
         /** How many lines of an ACCEPTED PROOF went. */
         int makeShort(int proof) {
             int count = lines.countOf(proof);
-            for (int k = 0; k < count && k < standIn.length; k++) {
-                renameNamed(proof, k);
-                standIn[k] = lines.ruleOf(proof, k) == ASSUME ? k : firstSame(proof, k);
+            for (int k = 0; k < count && k < Lines.MOST; k++) {
+                renameNamed(Lines.slotOf(proof, k));
+                standIn[k] = firstSame(proof, k);
             }
             int stay = findStaying(proof, standInOf(count - 1));
             int next = 0;
-            for (int k = 0; k < count && k < standIn.length; k++) {
+            for (int k = 0; k < count && k < Lines.MOST; k++) {
                 if ((stay >> k & 1) != 0) {
-                    renameNamed(proof, k);
-                    lines.move(proof, k, next);
+                    renameNamed(Lines.slotOf(proof, k));
+                    lines.move(Lines.slotOf(proof, k), Lines.slotOf(proof, next));
                     standIn[k] = next;
                     next++;
                 }
@@ -2462,19 +2482,20 @@ public final class Equalbook {
         }
 
         private int standInOf(int k) {
-            return k >= 0 && k < standIn.length ? standIn[k] : NONE;
+            return k >= 0 && k < Lines.MOST ? standIn[k] : NONE;
         }
 
-        private void renameNamed(int proof, int k) {
-            lines.rename(proof, k, standInOf(lines.firstOf(proof, k)), standInOf(lines.secondOf(proof, k)));
+        private void renameNamed(int slot) {
+            lines.rename(slot, standInOf(lines.firstOf(slot)), standInOf(lines.secondOf(slot)));
         }
 
-        /** The first line up to k that stands for itself with the same sides and ASSUMPTIONS; k, if no other does. */
+        /** The first line ahead of k that stands for itself and may stand for k; k, if none may. */
         private int firstSame(int proof, int k) {
-            int set = checks.hangsOf(proof, k);
-            for (int n = 0; n < k; n++) {
-                boolean isSame = lines.haveSides(proof, n, lines.leftOf(proof, k), lines.rightOf(proof, k));
-                if (standInOf(n) == n && isSame && checks.hangsOf(proof, n) == set) {
+            int slot = Lines.slotOf(proof, k);
+            for (int n = 0; n < k && lines.ruleOf(slot) != ASSUME; n++) {
+                int ahead = Lines.slotOf(proof, n);
+                boolean isSame = lines.haveSameSides(ahead, slot) && checks.hangsOf(ahead) == checks.hangsOf(slot);
+                if (isSame && standInOf(n) == n) {
                     return n;
                 }
             }
@@ -2485,9 +2506,10 @@ public final class Equalbook {
         private int findStaying(int proof, int last) {
             int stay = last >= 0 && last < Lines.MOST ? 1 << last : 0;
             for (int k = last; k >= 0; k--) {
+                int slot = Lines.slotOf(proof, k);
                 if ((stay >> k & 1) != 0) {
-                    stay |= lines.namesFirst(proof, k) ? 1 << lines.firstOf(proof, k) : 0;
-                    stay |= lines.namesSecond(proof, k) ? 1 << lines.secondOf(proof, k) : 0;
+                    stay |= lines.namesFirst(slot) ? 1 << lines.firstOf(slot) : 0;
+                    stay |= lines.namesSecond(slot) ? 1 << lines.secondOf(slot) : 0;
                 }
             }
             return stay;
