@@ -1501,6 +1501,9 @@ public final class Equalbook {
 
         /** The lanes of a word in which no value differs. */
         static int equalLanes(long unequal) {
+            if (unequal == 0) {
+                return 0xFF;
+            }
             int set = 0;
             for (int lane = 0; lane < LANES; lane++) {
                 if ((unequal >>> (lane * 8) & 0xFF) == 0) {
@@ -2152,9 +2155,12 @@ public final class Equalbook {
         /** The first TABLE of the BOOK in which a line does not hold (BUILT, if it USES induction), or NONE. */
         int firstFailing(int slot) {
             for (int word = 0; word < WORDS; word++) {
-                int failing = desk.tables.lanesAt(word) & ~Tables.equalLanes(wrongValues(slot, word));
+                int failing = desk.tables.lanesAt(word);
                 if (isInductive(slot)) {
                     failing &= Tables.builtLanes(word);
+                }
+                if (failing != 0) {
+                    failing &= ~Tables.equalLanes(wrongValues(slot, word));
                 }
                 for (int lane = 0; lane < LANES && failing != 0; lane++) {
                     if ((failing >> lane & 1) != 0) {
@@ -2180,8 +2186,9 @@ public final class Equalbook {
         private long wrongValues(int slot, int word) {
             long bad = terms.unequal(lines.leftOf(slot), lines.rightOf(slot), word);
             int base = Lines.baseOf(slot);
-            for (int a = 0; a < Lines.MOST && bad != 0; a++) {
-                if ((hangsOf(slot) >> a & 1) != 0) {
+            int set = hangsOf(slot);
+            for (int a = 0; a < Lines.MOST && bad != 0 && set >> a != 0; a++) {
+                if ((set >> a & 1) != 0) {
                     bad &= ~terms.unequal(lines.leftOf(base + a), lines.rightOf(base + a), word);
                 }
             }
