@@ -2066,7 +2066,7 @@ public final class Equalbook {
             standing = 0;
             inductiveLemmas = 0;
             int known = 0;
-            for (int pass = 0; pass <= NAMES; pass++) {
+            for (int pass = 0; pass < NAMES; pass++) {
                 for (int name = 0; name < NAMES; name++) {
                     int named = lines.lemmasNamed(Lines.sheetOf(name));
                     if (!lines.isLemma(name)) {

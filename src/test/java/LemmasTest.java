@@ -4,7 +4,7 @@ public final class LemmasTest {
     }
 
     public static void main(String[] args) {
-        Script.run("LemmasTest", KEEP, ASSUMPTION, COPY, LEMMA_LINE, CIRCLE, CHAIN, INDUCTION, DROP, OF_LEMMA);
+        Script.run("LemmasTest", KEEP, ASSUMPTION, COPY, LEMMA_LINE, CIRCLE, CHAIN, CHAIN_BACKWARDS, INDUCTION, DROP, OF_LEMMA);
     }
 
     // Promise 36
@@ -183,6 +183,32 @@ public final class LemmasTest {
             house 5 -> 6
             say 0 1 2 12 2 0
             keep 5 0 -> -9
+            """;
+
+    // Each lemma but the last name USES that of the next name.
+    private static final String CHAIN_BACKWARDS = """
+            tell 0 1 2
+            say 0 1 2 0 0 0
+            keep 5 0
+            say 1 1 2 12 5 0
+            keep 4 1
+            say 1 1 2 12 4 0
+            keep 3 1
+            say 1 1 2 12 3 0
+            keep 2 1
+            say 1 1 2 12 2 0
+            keep 1 1
+            say 1 1 2 12 1 0
+            keep 0 1
+            house 5 -> 6
+            ofLemma 0 5 -> 5
+            ofLemma 0 3 -> 1
+            ofLemma 3 5 -> 2
+            takeBack 0 0
+            house 5 -> 0
+            drop 5 -> 5
+            ofLemma 0 5 -> 4
+            isSound -> true
             """;
 
     // USES induction, by a lemma, whatever line of it does.

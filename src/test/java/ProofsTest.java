@@ -5,7 +5,7 @@ public final class ProofsTest {
 
     public static void main(String[] args) {
         Script.run("ProofsTest", SAY, UNSAY, LINE, TOLD, SAME_TURNED_ROW, WITHIN, PUT, HANGS, INDUCT, INDUCT_FAULTS,
-                INDUCT_VARIABLES, LAWS_CLASSES, USES, FIND, FIND_ROW, FIND_LIMIT, SHORTEN, SHORTEN_ASSUMPTIONS,
+                INDUCT_VARIABLES, LAWS_CLASSES, USES, FIND, FIND_ROW, FIND_LIMIT, deepFind(), ANEW, SHORTEN, SHORTEN_ASSUMPTIONS,
                 SHORTEN_NUMBERS, JOIN, JOIN_NUMBERS, JOIN_LIMIT, OF_LINE, FIRST_WRONG, FAILS, FAILS_INDUCTION, WRONG);
     }
 
@@ -530,6 +530,59 @@ public final class ProofsTest {
             find 0 3 3 -> throws.IllegalArgumentException
             """;
 
+    // Promise 28: 18 deep, where larger TERMS stand on the way, and just 24 lines.
+    private static String deepFind() {
+        StringBuilder text = new StringBuilder();
+        appendRow(text, 1, 6, 13);      // s(a) 6 to s^13(a) 18
+        appendRow(text, 2, 19, 13);     // s(b) 19 to s^13(b) 31
+        text.append("term 7 0 0 -> 32\nterm 7 0 1 -> 33\n");
+        appendRow(text, 32, 34, 6);     // s(p(o,o)) 34 to 39
+        appendRow(text, 33, 40, 6);     // s(p(o,a)) 40 to 45
+        text.append("tell 0 1 2\ntell 0 32 18\ntell 0 33 31\n");
+        text.append("round 0 32 33 -> 13\nround 0 38 44 -> 18\n");
+        text.append("path 0 32 33 -> 32 18 31 33\n");
+        text.append("find 0 39 45 -> -9\n");
+        text.append("house 2 -> 0\n");
+        text.append("find 0 38 44 -> 24\n");
+        text.append("line 0 0 -> p(o,o) = s(s(s(s(s(s(s(s(s(s(s(s(s(a))))))))))))): 0 1 0\n");
+        text.append("line 0 1 -> a = b: 0 0 0\n");
+        text.append("line 0 2 -> s(a) = s(b): 4 1 0\n");
+        text.append("line 0 23 -> s(s(s(s(s(p(o,o)))))) = s(s(s(s(s(p(o,a)))))): 4 22 0\n");
+        text.append("firstWrong 0 -> -1\n");
+        text.append("find 1 37 43 -> 23\nshorten 1 -> 0\n");
+        return text.toString();
+    }
+
+    private static void appendRow(StringBuilder text, int of, int first, int count) {
+        for (int k = 0; k < count; k++) {
+            text.append("term 6 ").append(k == 0 ? of : first + k - 1).append(" 0 -> ").append(first + k).append('\n');
+        }
+    }
+
+    // Lines where other ones were that are no more.
+    private static final String ANEW = """
+            say 0 0 1 9 0 0
+            say 0 0 1 8 0 0
+            firstWrong 0 -> 0
+            hangs 0 1 -> 1
+            unsay 0
+            unsay 0
+            house 3 -> 0
+            find 0 0 0 -> 1
+            ofLine 0 0 0 -> 0
+            ofLine 0 0 2 -> 0
+            house 3 -> 1
+            say 1 1 1 1 0 0
+            house 3 -> 2
+            join 0 1 -> 2
+            hangs 0 1 ->
+            say 0 0 1 1 0 0
+            unsay 0
+            shorten 0 -> 1
+            ofLine 0 0 0 -> 0
+            firstWrong 0 -> -1
+            """;
+
     // Promise 29
     private static final String SHORTEN = """
             shorten 0 -> -9
@@ -794,6 +847,12 @@ public final class ProofsTest {
             fails 0 -1 -> throws.IndexOutOfBoundsException
             fails 1 0 -> throws.IndexOutOfBoundsException
             fails 3 0 -> throws.IndexOutOfBoundsException
+            say 2 0 0 1 0 0
+            keep 0 2
+            line 3 0 -> throws.IndexOutOfBoundsException    # a lemma is no PROOF
+            ofLine 3 0 0 -> throws.IndexOutOfBoundsException
+            hangs 3 0 -> throws.IndexOutOfBoundsException
+            fails 3 0 -> throws.IndexOutOfBoundsException
             """;
 
     // Promise 35: BUILT TABLES alone, if the line USES induction.
@@ -827,6 +886,13 @@ public final class ProofsTest {
             fails 1 3 -> 8
             say 1 7 6 11 0 0
             fails 1 4 -> 8
+            term 6 3 0 -> 8
+            term 6 8 0 -> 9
+            tell 0 9 3                  # s(s(x)) = x: of BUILT ones just those with s of 0 as 1, s of 1 as 0
+            say 2 0 1 9 0 0
+            fails 2 0 -> 9              # o as 1
+            say 2 1 1 9 0 0
+            fails 2 1 -> -1
             """;
 
     private static final String WRONG = """

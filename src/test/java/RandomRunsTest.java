@@ -33,8 +33,14 @@ public final class RandomRunsTest {
 
     private boolean isRight() {
         int calls = 60 + random.nextInt(400);
+        // In some runs all is asked behind each change: so what is kept and no more so is seen.
+        boolean isAskedOften = chance(20);
         while (run.callsMade() < calls && !run.isWrong()) {
             act();
+            if (isAskedOften) {
+                run.call("digest");
+                run.call("normal", 1, any(count()));
+            }
         }
         run.call("digest");
         run.call("isSound");

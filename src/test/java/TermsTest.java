@@ -7,7 +7,8 @@ public final class TermsTest {
     }
 
     public static void main(String[] args) {
-        Script.run("TermsTest", NEW, TERM, LARGE, full(), PUT, PUT_ORDER, fullPut(), TEXT, OF_TERM);
+        Script.run("TermsTest", NEW, TERM, NEW_LIKE, LARGE, full(), PUT, PUT_ORDER, fullPut(), deep(),
+                TEXT, OF_TERM);
     }
 
     // Promise 1
@@ -73,6 +74,44 @@ public final class TermsTest {
             term 6 10 0 -> 11
             term 6 64 0 -> throws.IndexOutOfBoundsException
             """;
+
+    // Promises 2 and 3: a new TERM is LIKE others at once.
+    private static final String NEW_LIKE = """
+            tell 0 1 2
+            term 6 1 0 -> 6             # s(a)
+            term 6 3 0 -> 7             # s(x)
+            ofBook 0 6 -> 3
+            normal 0 7 -> s(x)
+            put 7 3 2 -> 8              # s(b)
+            like 0 6 8 -> true
+            ofBook 0 6 -> 3
+            normal 0 8 -> s(b)
+            term 6 6 0 -> 9
+            term 6 8 0 -> 10
+            like 0 9 10 -> true
+            say 0 0 0 5 0 11
+            say 0 0 0 1 0 0
+            say 0 0 0 5 1 11
+            ofLine 0 2 0 -> 1
+            term 6 9 0 -> 11
+            ofLine 0 2 0 -> 0           # now there is the TERM 11
+            """;
+
+    // Promises 2 to 4: 15 deep.
+    private static String deep() {
+        StringBuilder text = new StringBuilder();
+        for (int k = 0; k < 14; k++) {
+            text.append("term 6 ").append(k == 0 ? 3 : 5 + k).append(" 0 -> ").append(6 + k).append('\n');
+        }
+        text.append("text 19 -> s(s(s(s(s(s(s(s(s(s(s(s(s(s(x))))))))))))))\n");
+        text.append("put 19 3 1 -> 33\n");
+        text.append("text 33 -> s(s(s(s(s(s(s(s(s(s(s(s(s(s(a))))))))))))))\n");
+        text.append("text 20 -> s(a)\n");
+        text.append("normal 0 33 -> s(s(s(s(s(s(s(s(s(s(s(s(s(s(a))))))))))))))\n");
+        text.append("say 0 19 3 8 0 0\nsay 0 33 1 5 0 1\nofLine 0 1 0 -> 5\n");
+        text.append("say 0 33 3 5 0 1\nofLine 0 2 0 -> 3\n");
+        return text.toString();
+    }
 
     // Promise 2: SIZE 15 and 16.
     private static final String LARGE = """
