@@ -948,7 +948,7 @@ public final class Equalbook {
          * Whether one TERM is another one with by PUT for the variable; with NONE for by it is so only, if the
          * variable does not stand there.
          */
-        boolean isPut(int one, int t, int variable, int by, int depth) {
+        private boolean isPut(int one, int t, int variable, int by, int depth) {
             if (depth > MOST_SIZE) {
                 return false;
             }
@@ -1413,19 +1413,27 @@ public final class Equalbook {
             if (round < 1 || round >= MOST_TERMS) {
                 return false;
             }
-            for (int t = 0; t < MOST_TERMS; t++) {
-                smallest[round * MOST_TERMS + t] = smallest[(round - 1) * MOST_TERMS + t];
-                key[t] = t < terms.count ? keyIn(round - 1, t) : NONE;
-            }
+            System.arraycopy(smallest, (round - 1) * MOST_TERMS, smallest, round * MOST_TERMS, MOST_TERMS);
             boolean isMore = false;
-            for (int t = FIRST_TERMS; t < MOST_TERMS; t++) {
-                for (int u = FIRST_TERMS; u < t && key[t] != NONE; u++) {
-                    if (key[t] == key[u] && unite(round, t, u)) {
-                        isMore = true;
-                    }
+            for (int t = FIRST_TERMS; t < terms.count && t < MOST_TERMS; t++) {
+                key[t] = keyIn(round - 1, t);
+                // All others with the same key are LIKE the first one by now.
+                int first = firstWithKeyOf(t);
+                if (first != NONE && unite(round, t, first)) {
+                    isMore = true;
                 }
             }
             return isMore;
+        }
+
+        /** The first TERM ahead of t with the same key, or NONE. */
+        private int firstWithKeyOf(int t) {
+            for (int u = FIRST_TERMS; u < t && t < MOST_TERMS && key[t] != NONE; u++) {
+                if (key[u] == key[t]) {
+                    return u;
+                }
+            }
+            return NONE;
         }
 
         /** Whether the two were not LIKE in the round; then they are, with all that is LIKE them. */
