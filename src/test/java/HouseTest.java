@@ -92,7 +92,7 @@ public final class HouseTest {
         Due.is("digest() of a new object", sum, () -> new Equalbook().digest());
     }
 
-    private static Equalbook rich() {
+    static Equalbook rich() {
         Equalbook x = new Equalbook();
         int sa = x.term(6, 1, 0);
         int sb = x.term(6, 2, 0);
@@ -134,7 +134,7 @@ public final class HouseTest {
     }
 
     /** The checksum once more, from what the other calls answer. */
-    private static long digestOf(Equalbook x) {
+    static long digestOf(Equalbook x) {
         sum = 6111;
         for (int what = 0; what <= 6; what++) {
             add(x.house(what));
