@@ -7,7 +7,7 @@ public final class LemmaEdgesTest {
         Script.run("LemmaEdgesTest", KEEP_NAMES, KEEP_ORDER, KEEP_NOT_ACCEPTED, KEEP_ASSUMPTION, KEEP_REFUSED_STAYS,
                 KEEP_LINES, KEEP_OWN_NAME, KEEP_USED, KEEP_USED_FAR, KEEP_USED_NOW, COPY, SIDES, STANDS,
                 STANDS_BY_ANOTHER, STANDS_ALL_LINES, DROP_NAMES, DROP_LEFT, OF_LEMMA_NAMES, OF_LEMMA_WHAT,
-                OF_LEMMA_ONE_LINE, OF_LEMMA_USES, OF_LEMMA_INDUCTION, HOUSE_LEMMAS);
+                OF_LEMMA_ONE_LINE, OF_LEMMA_USES, OF_LEMMA_INDUCTION, HOUSE_LEMMAS, NOT_A_NAME);
     }
 
     private static final String KEEP_NAMES = """
@@ -448,5 +448,40 @@ public final class LemmaEdgesTest {
             takeBack 0 0
             house 4 -> 6
             house 5 -> 3
+            """;
+
+    private static final String NOT_A_NAME = """
+            ## Promises 36 to 38, and LEMMA: -1 and 6 are no names, though all PROOFS and lemmas have lines
+            times 24 say 0 0 0 1 0 0
+            times 24 say 1 0 0 1 0 0
+            times 24 say 2 0 0 1 0 0
+            keep 0 0
+            keep 5 0
+            ofLemma -1 0 -> I
+            ofLemma 6 0 -> I
+            drop -1 -> I
+            drop 6 -> I
+            keep -1 0 -> I
+            keep 6 0 -> I
+            house 2 -> 72
+            house 4 -> 2
+            unsay 1
+            say 1 0 0 12 -1 0
+            ofLine 1 23 0 -> 1
+            unsay 1
+            say 1 0 0 12 6 0
+            ofLine 1 23 0 -> 1
+            ofLine 1 23 2 -> 0
+            keep 1 1 -> -9
+            unsay 1
+            say 1 0 0 12 5 0
+            ofLine 1 23 0 -> 0
+            line 3 0 -> I
+            unsay 3 -> I
+            firstWrong 3 -> I
+            hangs 3 0 -> I
+            fails 3 0 -> I
+            shorten 3 -> I
+            join 3 0 -> I
             """;
 }
