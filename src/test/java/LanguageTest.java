@@ -14,6 +14,7 @@ import java.util.regex.Pattern;
 /** What can be seen of the rules of LANGUAGE.md without running the class. */
 public final class LanguageTest {
     private static final Path SOURCE = Path.of("src/main/java/Equalbook.java");
+    private static final Path DOCUMENT = Path.of("../shared/DOC.md");
 
     // The face, as the document has it.
     private static final Set<String> FACE = Set.of(
@@ -47,6 +48,7 @@ public final class LanguageTest {
             checkInner(inner);
         }
         checkSource();
+        checkDocument();
         System.out.println("LanguageTest: " + asked + " things asked, " + wrong + " wrong");
         if (wrong > 0) {
             System.exit(1);
@@ -136,11 +138,27 @@ public final class LanguageTest {
         }
         Matcher thrown = Pattern.compile("throw ([^;]*);").matcher(code);
         while (thrown.find()) {
-            ask(thrown.group(1).matches("new Ill?egal(State|Argument)Exception\\(\"[^\"]*\"\\)"
+            ask(thrown.group(1).matches("new Illegal(State|Argument)Exception\\(\"[^\"]*\"\\)"
                     + "|new IndexOutOfBoundsException\\(\"[^\"]*\"\\)"), thrown.group() + " is told so");
         }
         ask(Equalbook.class.getDeclaredClasses().length <= 12, "there are at most 12 classes");
         checkLengths(source);
+    }
+
+    /** The signatures stand in the class as in the document, the exceptions in their order, too. */
+    private static void checkDocument() throws Exception {
+        String document = Files.readString(DOCUMENT);
+        String face = document.split("```java", 2)[1].split("```", 2)[0];
+        String source = Files.readString(SOURCE).replaceAll("\\s+", " ");
+        int signatures = 0;
+        for (String line : face.split("\n")) {
+            String told = line.trim();
+            if (told.endsWith(";")) {
+                signatures++;
+                ask(source.contains(told.substring(0, told.length() - 1) + " {"), "the class has " + told);
+            }
+        }
+        ask(signatures == FACE.size() + 1, "the document has " + (FACE.size() + 1) + " signatures");
     }
 
     private static void checkLengths(String source) {
